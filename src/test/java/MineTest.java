@@ -126,7 +126,8 @@ public final class MineTest {
         LampOfTheSilent x = Due.mineOf(PAIR.repeat(3), "m60;".repeat(16));
         DUE.is("3: one pair more, then none", Due.tell(x, PAIR + PAIR).mine(), -2006);
         DUE.is("3: MINUTE above 999", Due.tell(x, "m40;").mine(), -2000);
-        DUE.is("3: MINUTE 999", Due.tell(x, "m39;").mine(), 1);
+        DUE.is("3: MINUTE 998", Due.tell(x, "m38;").mine(), 1);
+        DUE.is("3: MINUTE 999", Due.tell(x, "b001;m01;").mine(), 2);
         DUE.is("3: MINUTE", x.count(1), 999);
         DUE.is("3: MINUTE above 999", Due.tell(x, "b001;m01;").mine(), -2005);
         DUE.is("3: the fourth PAIR", Due.tell(x, PAIR).mine(), 1);

@@ -40,6 +40,9 @@ public final class ModelTest {
         for (int i = 0; i < pairs; i++) {
             tellPair();
         }
+        if (run % 7 == 0) {
+            bruiseAll();
+        }
         for (int i = 0; i < 4; i++) {
             for (int j = 0; j < 6; j++) {
                 changeSomething();
@@ -61,6 +64,26 @@ public final class ModelTest {
         }
         plain.pairs.add(pair);
         due("mine", Due.tell(x, text + ";").mine(), 1);
+    }
+
+    /** Runs in which some have nearly all the bruises that they can have. */
+    private void bruiseAll() {
+        for (int c = 0; c < 20; c++) {
+            x.props(c, 3);
+            plain.beams[c] = 3;
+        }
+        for (int i = 0; i < 2; i++) {
+            for (int p = 0; p < plain.pairs.size(); p++) {
+                x.stands(p, i);
+                plain.pairs.get(p).cell = i;
+            }
+            plain = plain.then(16);
+            x.minutes(16);
+        }
+        for (int c = 0; c < 20; c++) {
+            plain.beams[c] = below(3);
+            x.props(c, plain.beams[c]);
+        }
     }
 
     private void changeSomething() {

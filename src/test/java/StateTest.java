@@ -88,6 +88,8 @@ public final class StateTest {
         DUE.is("9: adds(1, 49)", x.adds(1, 49), 99);
         DUE.is("9: adds(1, 1)", x.adds(1, 1), 99);
         DUE.is("9: pair(0, 1)", x.pair(0, 1), 0);
+        DUE.is("9: adds(0, 99)", x.adds(0, 99), 99);
+        DUE.is("9: adds(0, 99) to 99", x.adds(0, 99), 99);
     }
 
     private static void swapsAndTurn() {

@@ -186,8 +186,31 @@ public final class ThoughtTest {
         DUE.is("27: two beams for three words", y.two(0, 3), 1);
         y.props(1, 3);
         DUE.is("27: four beams are too many", y.two(0, 3), 0);
+        // He who has 98 BRUISES can have 1 more at the most: to him four beams are cheap.
+        LampOfTheSilent z = Due.mineOf("pt0m0;t003;b011;b021;b032;");
+        DUE.is("27: four beams, and both are sound", z.two(0, 3), 0);
+        bruise(z, 98);
+        DUE.is("27: the first has 98", z.miner(0, 2), 98);
+        DUE.is("27: four beams, and the first alone is near 99", z.two(0, 3), 10);
+        z.swaps(0, 1);
+        DUE.is("27: the second alone is near 99", z.two(0, 3), 1);
         DUE.is("27: at the face", Due.mineOf("pt0t0;a019;t004;").two(0, 30), 0);
         DUE.is("27: nothing to say", Due.mineOf("pt0t0;").two(0, 30), 0);
+    }
+
+    /** The first of pair 0 speaks at beams till he has so many bruises; then four beams and three words are ahead. */
+    private static void bruise(LampOfTheSilent x, int bruises) {
+        x.turn(0, 2, 0);
+        while (x.miner(0, 2) < bruises) {
+            x.stands(0, 0);
+            x.props(1, Math.min(3, bruises - x.miner(0, 2)));
+            x.minutes(1);
+        }
+        x.stands(0, 0);
+        x.adds(0, 3);
+        x.props(1, 1);
+        x.props(2, 1);
+        x.props(3, 2);
     }
 
     private static void fraction(LampOfTheSilent x, int[] asked, long above, long below) {
