@@ -2,16 +2,37 @@
 final class Due {
     private int wrong;
     private int asked;
+    private int askedBefore;
+    private String sentence = "";
 
     void is(String call, long got, long want) {
         asked++;
         if (got != want) {
             wrong++;
-            System.out.println(call + " answered " + got + ", due is " + want);
+            System.out.println(sentence + call + " answered " + got + ", due is " + want);
         }
     }
 
+    /** What is asked from here on is due by this sentence of this part of the document. */
+    void by(String part, String words) {
+        endSentence();
+        sentence = part + ": \"" + words + "\": ";
+        if (!Document.says(part, words)) {
+            wrong++;
+            System.out.println(sentence + "the document does not say so");
+        }
+    }
+
+    private void endSentence() {
+        if (!sentence.isEmpty() && asked == askedBefore) {
+            wrong++;
+            System.out.println(sentence + "nothing was asked");
+        }
+        askedBefore = asked;
+    }
+
     void end() {
+        endSentence();
         System.out.println(wrong == 0 ? asked + " answers are as due" : wrong + " answers are not as due");
         if (wrong != 0) {
             System.exit(1);

@@ -15,7 +15,6 @@ public final class ThoughtTest {
         cough();
         whatIs();
         lots();
-        nothingIsChangedByThinking();
         DUE.end();
     }
 
@@ -283,50 +282,5 @@ public final class ThoughtTest {
         LampOfTheSilent y = Due.mineOf("pd0d0;");
         DUE.is("34: a negative seed", y.lots(20, -1, 0), y.lots(20, Integer.MAX_VALUE, 0));
         DUE.is("34: d goes 30 cells", y.lots(20, 77, 0), 20);
-    }
-
-    private static void nothingIsChangedByThinking() {
-        LampOfTheSilent x = Due.mineOf("pm1s2;pf3o4;t009;t103;b023;b051;m02;");
-        long before = seen(x);
-        x.faced(-1);
-        x.faced(-2);
-        x.clears(40);
-        x.change();
-        x.lots(20, 3, 1);
-        x.bruisesThen(-1, 60);
-        for (int p = 0; p < 2; p++) {
-            x.pairThen(p, 60, 0);
-            x.faced(p);
-            x.done(p);
-            x.begins(p);
-            x.bestCell(p, 0);
-            x.hum(p, 12);
-            x.two(p, 30);
-            x.cough(p, 7, 3, 9, 0);
-        }
-        for (int m = 0; m < 4; m++) {
-            x.hurt(m, 99);
-            x.bestKind(m, 0);
-            x.whatIs(m, 0);
-            x.whatIs(m, 1);
-        }
-        DUE.is("all as it was", seen(x), before);
-    }
-
-    private static long seen(LampOfTheSilent x) {
-        long sum = 0;
-        for (int what = 0; what < 8; what++) {
-            sum = 31 * sum + x.count(what);
-        }
-        for (int m = 0; m < 4; m++) {
-            sum = 31 * sum + 100 * x.miner(m, 2) + 10 * x.miner(m, 0) + x.miner(m, 1);
-        }
-        for (int p = 0; p < 2; p++) {
-            sum = 31 * sum + 100 * x.pair(p, 0) + x.pair(p, 1);
-        }
-        for (int c = 0; c < 20; c++) {
-            sum = 31 * sum + x.beams(c);
-        }
-        return sum;
     }
 }
