@@ -26,6 +26,7 @@ public final class GalleryEdgesTest {
         wantsOfOverseer();
         wantsNearMinute999();
         goes();
+        asAboveThem();
         minuteIsOneMoreFirst();
         notAtTheFace();
         firstWhoWantsTo();
@@ -305,6 +306,16 @@ public final class GalleryEdgesTest {
         DUE.is("d", Due.mineOf("pd0d0;").pairThen(0, 1, 0), 3);
         DUE.is("f in an odd minute", Due.mineOf("pf0d0;").pairThen(0, 1, 0), 1);
         DUE.is("o in minute 3", Due.mineOf("m02;po0d0;").pairThen(0, 1, 0), 2);
+    }
+
+    private static void asAboveThem() {
+        DUE.by("I", "Where it is not told as above them.");
+        wants("pt0d0;t099;b013;", 0, true);
+        wants("po9d0;t000;b013;", 0, true);
+        DUE.is("s goes as m", Due.mineOf("ps0d0;").miner(0, 3), 2);
+        DUE.is("d goes 1 more than s", Due.mineOf("pd0d0;").miner(0, 3), 3);
+        DUE.is("f goes as t", Due.mineOf("pf0d0;").miner(0, 3), 1);
+        DUE.is("o goes 1 more than t", Due.mineOf("po0d0;").miner(0, 3), 2);
     }
 
     private static void minuteIsOneMoreFirst() {

@@ -231,6 +231,9 @@ public final class MineEdgesTest {
         due("m60;".repeat(16) + "m40;", -2064);
         due("m60;".repeat(17), -2064);
         due("m60;".repeat(16) + "m39;m01;", -2068);
+        due("m60;".repeat(16) + "b000;m39;", 18);
+        due("m60;".repeat(16) + "b000;m40;", -2069);
+        due("m60;".repeat(16) + "m39;b000;m01;", -2073);
     }
 
     private static void semicolons() {

@@ -19,6 +19,7 @@ public final class OddsEdgesTest {
         free();
         eager();
         together();
+        twoNeverOrAlways();
         twoOfNoMinutes();
         twoOfThirty();
         twoAndThreeFewer();
@@ -94,6 +95,19 @@ public final class OddsEdgesTest {
         DUE.is("10 minutes of 2 CELLS", mine("pm0d0;").hum(0, 10), 0);
         DUE.is("1 minute of 3 CELLS from 15", mine("pd0d0;a015;").hum(0, 1), -9);
         DUE.is("1 minute of 3 CELLS from 16", mine("pd0d0;a016;").hum(0, 1), 0);
+        DUE.is("1 minute of 3 CELLS from 17: the FACE at most", mine("pd0d0;a017;b183;b193;").hum(0, 1), 0);
+        DUE.is("1 minute of 3 CELLS from 18: the FACE at most", mine("pd0d0;a018;b193;").hum(0, 1), 0);
+        LampOfTheSilent x = mine("pt0t0;pm0t0;pt0m0;pd0t0;");
+        DUE.is("PAIR 1 by the lamp of MINER 2, 9 minutes", x.hum(1, 9), -9);
+        DUE.is("PAIR 1 by the lamp of MINER 2, 10 minutes", x.hum(1, 10), 0);
+        DUE.is("PAIR 2 by the lamp of MINER 4", x.hum(2, 12), -9);
+        DUE.is("PAIR 3 by the lamp of MINER 6, 6 minutes", x.hum(3, 6), -9);
+        DUE.is("PAIR 3 by the lamp of MINER 6, 7 minutes", x.hum(3, 7), 0);
+        DUE.is("the same once more", x.hum(3, 7), 0);
+        x.stands(3, 17);
+        DUE.is("from CELL 17", x.hum(3, 1), 0);
+        x.stands(3, 10);
+        DUE.is("from CELL 10", x.hum(3, 2), -9);
     }
 
     private static void humWhateverTheirKinds() {
@@ -131,6 +145,8 @@ public final class OddsEdgesTest {
     private static void mostHurt() {
         DUE.by("II", "MOST HURT: the MINER, of several the least; -9.");
         DUE.is("nobody is hurt", mine("pm0m0;pm0m0;").first(2), 0);
+        DUE.is("nobody of one PAIR is hurt", mine("pm0m0;").first(2), 0);
+        DUE.is("the second of one PAIR", mine("pd0t0;b011;m01;").first(2), 1);
         DUE.is("3 and 5 alike", mine("pd0d0;pd0t0;pd0t0;b013;m01;").first(2), 3);
         DUE.is("the last by 1", mine("pt0d0;pd0t0;a101;b012;b023;m01;").first(2), 3);
         DUE.is("the first by 1", mine("pt0d0;pd0t0;a101;b013;b022;m01;").first(2), 0);
@@ -161,6 +177,13 @@ public final class OddsEdgesTest {
     }
 
     private static void beamsOfAll() {
+        DUE.by("Promise 25", "BEAMS: all (what 0), the CELL of most (1), FREE (2, bits). -2.");
+        LampOfTheSilent x = mine("b011;b182;");
+        int[] due = {3, 18, 786429};
+        for (int what = 0; what < 3; what++) {
+            DUE.is("timber(" + what + ")", x.timber(what), due[what]);
+        }
+        DUE.is("timber(3)", x.timber(3), -2);
         DUE.by("II", "BEAMS: all together;");
         DUE.is("none", new LampOfTheSilent().timber(0), 0);
         DUE.is("those of CELL 0", mine("b001;").timber(0), 1);
@@ -174,6 +197,7 @@ public final class OddsEdgesTest {
         DUE.is("none", new LampOfTheSilent().timber(1), 0);
         DUE.is("3 in each", allProps(3).timber(1), 0);
         DUE.is("CELL 19 alone", mine("b191;").timber(1), 19);
+        DUE.is("CELL 1 alone", mine("b011;").timber(1), 1);
         DUE.is("8 and 19 alike", mine("b072;b083;b193;").timber(1), 8);
         DUE.is("CELL 0 alone", mine("b002;b011;b191;").timber(1), 0);
     }
@@ -195,6 +219,8 @@ public final class OddsEdgesTest {
     }
 
     private static void eager() {
+        DUE.by("Promise 26", "EAGER (bits).");
+        DUE.is("each second one of four PAIRS", mine("pd0t0;pd0t0;pd0t0;pd0t0;").eager(), 170);
         DUE.by("II", "EAGER: MINERS (bits) who want to SPEAK in the next MINUTE (AT the FACE nobody).");
         DUE.is("nobody there", new LampOfTheSilent().eager(), 0);
         DUE.is("all of four PAIRS", mine("pt0t0;pt0t0;pt0t0;pt0t0;").eager(), 255);
@@ -224,6 +250,15 @@ public final class OddsEdgesTest {
         DUE.is("two of four", x.first(3), 1);
         x.stands(0, 18);
         DUE.is("none of four", x.first(3), 0);
+    }
+
+    private static void twoNeverOrAlways() {
+        DUE.by("II", "each never SPEAKS (0) or always wants to (1)");
+        DUE.is("deaf ones have it better by speaking", mine("pd0d0;t002;").two(0, 2), 1);
+        DUE.is("talkers have it better by holding their tongue", mine("pt0t0;t002;b013;b023;").two(0, 2), 0);
+        DUE.is("shy ones speak at BEAMS", mine("ps0s0;t002;b011;b021;").two(0, 2), 1);
+        DUE.is("fathers speak in odd MINUTES", mine("pf0f0;t001;").two(0, 1), 1);
+        DUE.is("who always wants to speaks on behind the last word", mine("pm0m0;t001;b033;").two(0, 3), 0);
     }
 
     private static void twoOfNoMinutes() {
@@ -264,7 +299,7 @@ public final class OddsEdgesTest {
         DUE.is("as many words as minutes", mine("pm0m0;t003;").two(0, 3), 1);
         DUE.is("one word fewer than minutes", mine("pm0m0;t003;").two(0, 4), 1);
         DUE.is("whatever their KINDS", mine("pd0d0;t003;").two(0, 3), 1);
-        DUE.is("the minutes behind the last word hurt, too", mine("pm0m0;t001;b023;").two(0, 2), 0);
+        DUE.is("the BEAMS behind the last word BRUISE, too", mine("pm0m0;t001;b023;").two(0, 2), 0);
     }
 
     private static void twoAlwaysSettle() {
@@ -299,6 +334,14 @@ public final class OddsEdgesTest {
         DUE.is("the first has 97: 2 more", twoWords(97).two(0, 2), 10);
         DUE.is("the first has 96: 3 more, and he has it no better", twoWords(96).two(0, 2), 0);
         DUE.is("the first has 95: 4 more", twoWords(95).two(0, 2), 0);
+        LampOfTheSilent last = Due.tell(twoWords(98), "pd0d0;pd0d0;pd0d0;t302;t102;x07;");
+        last.mine();
+        DUE.is("in PAIR 3 the second has 98", last.two(3, 2), 1);
+        DUE.is("in PAIR 1 all are sound", last.two(1, 2), 0);
+        last.swaps(7, 6);
+        DUE.is("in PAIR 3 the first has 98", last.two(3, 2), 10);
+        last.swaps(6, 2);
+        DUE.is("in PAIR 1 the first has 98", last.two(1, 2), 10);
         LampOfTheSilent y = bruised(98, 3);
         y.adds(0, 1);
         DUE.is("3 BEAMS: the second has it no worse by speaking", y.two(0, 1), 1);
@@ -321,6 +364,11 @@ public final class OddsEdgesTest {
     }
 
     private static void coughOfSeven() {
+        DUE.by("Promise 28", "COUGH, part 0 above, 1 below the line.");
+        DUE.is("part 0", mine("pd0d0;").cough(0, 1, 20, 2, 0), 19);
+        DUE.is("part 1", mine("pd0d0;").cough(0, 1, 20, 2, 1), 20);
+        DUE.is("part 2", mine("pd0d0;").cough(0, 1, 20, 2, 2), 4000000000000000002L);
+        DUE.is("part -1", mine("pd0d0;").cough(0, 1, 20, 2, -1), 4000000000000000002L);
         DUE.by("Promise 28", "-6 (7; 20; 19)");
         // 3 CELLS where nobody coughs, 1 where the second does: 7 minutes reach the FACE with one cough at the most.
         fraction(mine("pd0d0;"), 7, 2, 19, 1, 16);
@@ -369,8 +417,16 @@ public final class OddsEdgesTest {
         // A father and MINUTES: silent with 1 CELL in the odd ones, so that he always goes 1.
         fraction(mine("pf0d0;"), 7, 2, 7, 1, 1);
         fraction(mine("pf0d0;"), 7, 2, 8, 0, 1);
+        fraction(mine("pd0f0;"), 1, 2, 3, 1, 2);
         fraction(mine("pd0f0;"), 2, 2, 4, 1, 2);
-        fraction(mine("pd0f0;m01;"), 2, 2, 7, 1, 2);
+        fraction(mine("pd0f0;"), 2, 2, 5, 0, 1);
+        fraction(mine("m01;pd0f0;"), 1, 2, 2, 0, 1);
+        fraction(mine("m01;pd0f0;"), 2, 2, 4, 1, 2);
+        // An overseer of 0 is silent in the MINUTES 3 and 6.
+        fraction(mine("po0d0;"), 2, 2, 3, 0, 1);
+        fraction(mine("po0d0;"), 3, 2, 4, 1, 2);
+        fraction(mine("po0d0;m02;a000;"), 1, 2, 2, 1, 2);
+        fraction(mine("po0d0;m02;a000;"), 4, 2, 6, 1, 4);
         DUE.is("nobody is hurt", mine("pd0d0;b013;").count(3), 0);
     }
 
@@ -444,6 +500,11 @@ public final class OddsEdgesTest {
         DUE.is("the FACE from 17", Due.rowed(mine("pd0d0;a017;"), 17, 19).whatIs(0, 0), 11);
         DUE.is("the second PAIR", Due.rowed(mine("pd0d0;pd0d0;a105;"), 5, 8).whatIs(3, 0), 27);
         DUE.is("the first PAIR", Due.rowed(mine("pd0d0;pd0d0;a105;"), 5, 8).whatIs(1, 0), 0);
+        LampOfTheSilent four = mine("pd0d0;pd0d0;pd0d0;po0d0;a101;a202;a303;");
+        DUE.is("MINER 2 is of PAIR 1", Due.rowed(four, 1, 4).whatIs(2, 0), 8);
+        DUE.is("MINER 5 is of PAIR 2", Due.rowed(four, 2, 5).whatIs(5, 0), 27);
+        DUE.is("MINER 7 is of PAIR 3", Due.rowed(four, 3, 4).whatIs(7, 0), 63);
+        DUE.is("MINER 6 is of PAIR 3", Due.rowed(four, 3, 4, 5, 7).whatIs(6, 1), 1);
     }
 
     private static void whatIsBits() {
@@ -604,6 +665,7 @@ public final class OddsEdgesTest {
         DUE.is("lots(1, 3, 1), CELL 9 and TO SAY 3", mine("pm0d0;b101;b122;b133;").lots(1, 3, 1), 3);
         // 1000000000: z becomes -1446562465, 1897366322: CELL 13, TO SAY 3.
         DUE.is("lots(1, 1000000000, 1), CELL 13 and TO SAY 3", mine("pm0d0;b141;b162;b173;").lots(1, 1000000000, 1), 3);
+        DUE.by("II", "A DRAW below m: z becomes z times 1664525 and 1013904223 (an int);");
         // Of 20 shifts: a talker is AT the FACE from CELL 9 on, and walks into 1 beam in each CELL, 10 at most.
         int[][] due = {{0, 12, 141}, {1, 12, 155}, {-1, 11, 140}, {GREATEST, 11, 140}, {LEAST, 12, 141},
             {123456789, 10, 144}};

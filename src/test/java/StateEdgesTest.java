@@ -26,6 +26,8 @@ public final class StateEdgesTest {
         countOfAllFull();
         countOfAnotherWhat();
         countOfRefusals();
+        eachRefusal();
+        theFirstThatFits();
         fiveHundredAndTwelveCalls();
         DUE.end();
     }
@@ -365,6 +367,52 @@ public final class StateEdgesTest {
         DUE.is("count(16)", x.count(16), 1);
         DUE.is("count(15): no call answers -5", x.count(15), 0);
         DUE.is("count(11) still", x.count(11), 2);
+    }
+
+    private static void eachRefusal() {
+        LampOfTheSilent x = mine("pm0m0;");
+        DUE.by("THE IMAGE", "-1 NOBODY: no such CELL, PAIR, MINER, one twice.");
+        DUE.is("no such CELL", x.beams(20), -1);
+        DUE.is("no such PAIR", x.pair(1, 0), -1);
+        DUE.is("no such MINER", x.miner(2, 0), -1);
+        DUE.is("one twice", x.swaps(1, 1), -1);
+        DUE.by("THE IMAGE", "-2 OTHER: what, KIND.");
+        DUE.is("what", x.miner(0, 4), -2);
+        DUE.is("KIND", x.turn(0, 6, 0), -2);
+        DUE.by("THE IMAGE", "-3 STATE: it is not as it must be.");
+        DUE.is("no IMAGE", x.on(), -3);
+        DUE.by("THE IMAGE", "-4 BELOW: a number below the least.");
+        DUE.is("BEAMS", x.props(0, -1), -4);
+        DUE.is("MINUTES", x.minutes(0), -4);
+        DUE.by("THE IMAGE", "-6 ROOM: a number above the greatest, no room.");
+        DUE.is("BEAMS", x.props(0, 4), -6);
+        DUE.is("a 97th letter", Due.tell(x, "m01;".repeat(24)).letter('m'), -6);
+        DUE.is("a 17th number", Due.rowed(x, 1, 2, 3, 4, 5, 6, 7, 8, 9, 10, 11, 12, 13, 14, 15, 16).row(17), -6);
+        int[] due = {4, 2, 1, 2, 0, 3};
+        for (int k = 0; k < 6; k++) {
+            DUE.is("count(" + (11 + k) + ")", x.count(11 + k), due[k]);
+        }
+    }
+
+    /** All of them together stand in RefusalsTest. */
+    private static void theFirstThatFits() {
+        DUE.by("THE IMAGE", "(the call answers the number, the first that fits in the order in which it tells them; nothing changes");
+        LampOfTheSilent x = mine("pm0m0;");
+        DUE.is("turn(2, 6, -1): -1, -2 and -4", x.turn(2, 6, -1), -1);
+        DUE.is("turn(0, 6, -1): -2 and -4", x.turn(0, 6, -1), -2);
+        DUE.is("turn(0, 6, 10): -2 and -6", x.turn(0, 6, 10), -2);
+        DUE.is("pairThen(0, -1, 2): -4 and -2", x.pairThen(0, -1, 2), -4);
+        DUE.is("pairThen(0, 61, 2): -6 and -2", x.pairThen(0, 61, 2), -6);
+        DUE.is("cough(0, 8, 1, 0, 0): -4 and -6", x.cough(0, 8, 1, 0, 0), 4000000000000000004L);
+        DUE.is("cough(0, 0, 21, 0, 2): -6 and -2", x.cough(0, 0, 21, 0, 2), 4000000000000000006L);
+        DUE.is("lots(0, 0, 2): -4 and -2", x.lots(0, 0, 2), -4);
+        DUE.is("lots(21, 0, 2): -6 and -2", x.lots(21, 0, 2), -6);
+        int[] due = {1, 2, 0, 3, 0, 3};
+        for (int k = 0; k < 6; k++) {
+            DUE.is("count(" + (11 + k) + "): each call counts once", x.count(11 + k), due[k]);
+        }
+        LampOfTheSilent twin = mine("pm0m0;");
+        DUE.is("nothing else has changed", Seen.areAlike(x, twin) ? 1 : 0, 1);
     }
 
     private static void fiveHundredAndTwelveCalls() {

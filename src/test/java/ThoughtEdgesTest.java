@@ -15,6 +15,7 @@ public final class ThoughtEdgesTest {
         firstOfSeveral();
         firstOfNobody();
         allFaced();
+        facedOfOneFirstAndAll();
         doneFirst();
         doneNever();
         hurtFirst();
@@ -29,6 +30,7 @@ public final class ThoughtEdgesTest {
         clearTheFirstAndTheLastCell();
         clearAt99Bruises();
         changeOfTooFew();
+        changeIsNoRefusal();
         changeNoSooner();
         changeOfSeveral();
         changeTheSoonest();
@@ -119,6 +121,8 @@ public final class ThoughtEdgesTest {
         DUE.is("pairThen(0, 19, 0)", x.pairThen(0, 19, 0), 19);
         DUE.is("pairThen(0, 60, 0)", x.pairThen(0, 60, 0), 19);
         DUE.is("pairThen(0, 60, 1)", x.pairThen(0, 60, 1), 11);
+        DUE.is("pairThen(0, 0, 1)", x.pairThen(0, 0, 1), 30);
+        DUE.is("pairThen(0, 7, 1)", x.pairThen(0, 7, 1), 23);
         DUE.is("pairThen(0, 61, 0)", x.pairThen(0, 61, 0), -6);
         DUE.by("Promise 14", "BRUISES of one; of all (miner -1). -1; -4; -6 60.");
         DUE.is("bruisesThen(0, 18)", x.bruisesThen(0, 18), 18);
@@ -167,6 +171,8 @@ public final class ThoughtEdgesTest {
         DUE.is("1 and 3 alike", mine("pm0m0;pd0d0;pm0m0;pd0d0;").faced(-1), 1);
         DUE.is("the last alone", mine("pm0m0;pm0m0;pm0m0;pd0d0;").faced(-1), 3);
         DUE.is("2 and 3 AT the FACE", mine("pm0m0;pd0d0;pm0m0;pd0d0;a219;a319;").faced(-1), 2);
+        DUE.is("the last AT the FACE, all others 1 MINUTE from it",
+                mine("pt0t0;pd0d0;pm0m0;pd0d0;a018;a116;a217;a319;").faced(-1), 3);
         DUE.is("the farthest on is not the first there", mine("pt0t0;pd0d0;a015;a110;").faced(-1), 1);
     }
 
@@ -187,6 +193,17 @@ public final class ThoughtEdgesTest {
         DUE.is("all but the last AT the FACE", mine("pt0t0;pt0t0;a019;a118;").faced(-2), 1);
         DUE.is("all but the first AT the FACE", mine("pt0t0;pt0t0;a018;a119;").faced(-2), 1);
         DUE.is("the slowest counts", mine("pd0d0;pt0t0;pm0m0;").faced(-2), 19);
+    }
+
+    private static void facedOfOneFirstAndAll() {
+        DUE.by("Promise 15", "FACED; -9; FIRST (pair -1; -9), ALL FACED (-2; -9). -1.");
+        LampOfTheSilent x = mine("pm0m0;pd0d0;pt0t0;pd0d0;");
+        int[] due = {19, 1, 10, 7, 19, 7};
+        for (int pair = -2; pair < 4; pair++) {
+            DUE.is("faced(" + pair + ")", x.faced(pair), due[pair + 2]);
+        }
+        DUE.is("faced(-3)", x.faced(-3), -1);
+        DUE.is("faced(4)", x.faced(4), -1);
     }
 
     private static void doneFirst() {
@@ -325,8 +342,23 @@ public final class ThoughtEdgesTest {
         DUE.by("II", "CHANGE: the two MINERS of two PAIRS");
         DUE.is("nobody", new LampOfTheSilent().change(), -9);
         DUE.is("one PAIR: its own two are none", mine("pm0d0;").change(), -9);
-        DUE.is("two PAIRS: the own two of one are none", mine("pm0d0;pm0m0;a119;").change(), -9);
+        DUE.is("two PAIRS: the own two of the first are none", mine("pm0d0;pm0m0;a119;").change(), -9);
+        DUE.is("two PAIRS: the own two of the second are none", mine("pm0m0;pm0d0;a019;").change(), -9);
+        DUE.is("four PAIRS: the own two of the last are none",
+                mine("pm0m0;pm0m0;pm0m0;pm0d0;a019;a119;a219;").change(), -9);
         DUE.is("two PAIRS without another KIND", mine("pm0m0;pm0m0;").change(), -9);
+    }
+
+    private static void changeIsNoRefusal() {
+        DUE.by("Promise 20", "CHANGE; -9.");
+        LampOfTheSilent x = mine("pt0t0;pt0t0;");
+        LampOfTheSilent twin = mine("pt0t0;pt0t0;");
+        DUE.is("change()", x.change(), -9);
+        DUE.is("it is no REFUSAL", Seen.refusals(x).equals(Seen.refusals(twin)) ? 1 : 0, 1);
+        DUE.is("nobody has changed", Seen.areAlike(x, twin) ? 1 : 0, 1);
+        LampOfTheSilent y = mine("pt0d0;pd0d0;a119;");
+        DUE.is("change() of who had better", y.change(), 2);
+        DUE.is("nobody has changed", y.miner(0, 0), 2);
     }
 
     private static void changeNoSooner() {
@@ -427,6 +459,11 @@ public final class ThoughtEdgesTest {
         DUE.is("a father in odd minutes", mine("pf0d0;b011;b031;").bestCell(0, 0), 0);
         DUE.is("a father in even minutes", mine("pf0d0;b021;").bestCell(0, 0), 1);
         DUE.is("the second speaks", mine("pd0t0;b121;").bestCell(0, 0), 12);
+        DUE.is("an overseer of 0 in MINUTE 3", mine("m02;po0d0;b011;").bestCell(0, 0), 0);
+        DUE.is("an overseer of 0 in MINUTE 2", mine("m01;po0d0;b011;").bestCell(0, 0), 1);
+        DUE.is("an overseer of 0 in MINUTES 1 and 2", mine("po0d0;b012;b021;").bestCell(0, 0), 2);
+        DUE.is("of PAIR 3", mine("pd0d0;pd0d0;pd0d0;pd0t0;b051;").bestCell(3, 0), 5);
+        DUE.is("of PAIR 2", mine("pd0d0;pd0d0;pd0d0;pd0t0;b051;").bestCell(2, 0), 0);
     }
 
     private static void bestCellWithToSay() {
