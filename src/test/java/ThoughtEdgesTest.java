@@ -83,7 +83,14 @@ public final class ThoughtEdgesTest {
         DUE.is("begins(0)", x.begins(0), 5);
         DUE.is("clears(1)", x.clears(1), 1);
         DUE.is("bestKind(1, 1)", x.bestKind(1, 1), 7);
-        DUE.is("lots(20, 1, 0)", x.lots(20, 1, 0) > 0 ? 1 : 0, 1);
+        DUE.is("hum(0, 7)", x.hum(0, 7), 0);
+        DUE.is("two(1, 30)", x.two(1, 30), 0);
+        DUE.is("cough(0, 1, 2, 2, 0)", x.cough(0, 1, 2, 2, 0), 0);
+        DUE.is("cough(0, 2, 2, 4, 1)", x.cough(0, 2, 2, 4, 1), 2);
+        DUE.is("whatIs(1, 0) of a talker, a father, an overseer", Due.rowed(x, 0, 1).whatIs(1, 0), 52);
+        DUE.is("whatIs(1, 0) of a father", Due.rowed(x, 0, 1, 4).whatIs(1, 0), 16);
+        // The seed 0 draws CELL 3 for PAIR 0, whose father speaks in MINUTE 1000.
+        DUE.is("lots(1, 0, 1)", x.lots(1, 0, 1), 2);
         DUE.is("count(1) still", x.count(1), 999);
         DUE.is("count(16)", x.count(16), 0);
     }
