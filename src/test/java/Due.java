@@ -67,4 +67,28 @@ final class Due {
         }
         return x;
     }
+
+    /** Minutes go by till MINUTE is so; in steps that end, however the program answers. */
+    static LampOfTheSilent atMinute(LampOfTheSilent x, int minute) {
+        for (int step = 0; step < 20 && x.count(1) < minute; step++) {
+            x.minutes(Math.min(60, minute - x.count(1)));
+        }
+        return x;
+    }
+
+    /** A talker beside a deaf one in CELL 0, who has walked into so many BEAMS; so many more are in CELL 1. */
+    static LampOfTheSilent bruised(int bruises, int ahead) {
+        return bruise(mineOf("pt0d0;"), bruises, ahead);
+    }
+
+    static LampOfTheSilent bruise(LampOfTheSilent x, int bruises, int ahead) {
+        for (int step = 0; step < 40 && x.miner(0, 2) < bruises; step++) {
+            x.stands(0, 0);
+            x.props(1, Math.min(3, bruises - x.miner(0, 2)));
+            x.minutes(1);
+        }
+        x.stands(0, 0);
+        x.props(1, ahead);
+        return x;
+    }
 }

@@ -37,13 +37,6 @@ public final class GalleryEdgesTest {
         DUE.end();
     }
 
-    private static LampOfTheSilent atMinute(LampOfTheSilent x, int minute) {
-        while (x.count(1) < minute) {
-            x.minutes(Math.min(60, minute - x.count(1)));
-        }
-        return x;
-    }
-
     private static void cells() {
         DUE.by("I", "CELLS 0 .. 19");
         LampOfTheSilent x = Due.mineOf(PAIR);
@@ -133,25 +126,12 @@ public final class GalleryEdgesTest {
         DUE.is("count(3) at first", x.count(3), 0);
     }
 
-    /** A talker with so many BRUISES, in CELL 0, with so many BEAMS in CELL 1. */
-    private static LampOfTheSilent bruised(int bruises, int ahead) {
-        LampOfTheSilent x = Due.mineOf("pt0d0;");
-        while (x.miner(0, 2) < bruises) {
-            x.stands(0, 0);
-            x.props(1, Math.min(3, bruises - x.miner(0, 2)));
-            x.minutes(1);
-        }
-        x.stands(0, 0);
-        x.props(1, ahead);
-        return x;
-    }
-
     private static void bruisesAt99() {
         DUE.by("I", "the BEAMS in it BRUISE him who SPEAKS (so many more, 99 at most)");
         int[][] due = {{95, 3, 98}, {96, 3, 99}, {97, 2, 99}, {97, 3, 99}, {98, 0, 98}, {98, 1, 99}, {98, 2, 99},
             {98, 3, 99}, {99, 0, 99}, {99, 1, 99}, {99, 3, 99}};
         for (int[] one : due) {
-            LampOfTheSilent x = bruised(one[0], one[1]);
+            LampOfTheSilent x = Due.bruised(one[0], one[1]);
             DUE.is("the BRUISES ahead of it", x.miner(0, 2), one[0]);
             DUE.is(one[0] + " and " + one[1] + " in mind", x.bruisesThen(0, 1), one[2]);
             x.minutes(1);
@@ -163,7 +143,7 @@ public final class GalleryEdgesTest {
 
     private static void bruisesThatChangePlacesAt99() {
         DUE.by("I", "they change places (KIND, FIGURE, BRUISES go with them)");
-        LampOfTheSilent x = Due.tell(bruised(99, 3), "pd1d2;x03;");
+        LampOfTheSilent x = Due.tell(Due.bruised(99, 3), "pd1d2;x03;");
         DUE.is("mine()", x.mine(), 2);
         DUE.is("miner(3, 2)", x.miner(3, 2), 99);
         DUE.is("miner(0, 2)", x.miner(0, 2), 0);
@@ -198,7 +178,7 @@ public final class GalleryEdgesTest {
         DUE.by("I", "MINUTE (0 .. 999; 0 at first)");
         LampOfTheSilent x = new LampOfTheSilent();
         DUE.is("count(1) at first", x.count(1), 0);
-        atMinute(x, 998);
+        Due.atMinute(x, 998);
         DUE.is("minutes(2) at 998", x.minutes(2), -6);
         DUE.is("minutes(1) at 998", x.minutes(1), 0);
         DUE.is("count(1)", x.count(1), 999);
@@ -220,7 +200,7 @@ public final class GalleryEdgesTest {
 
     /** Whether the first of PAIR 0 wants to speak in the next minute: the second is deaf. */
     private static void wants(String mine, int minute, boolean due) {
-        LampOfTheSilent x = atMinute(new LampOfTheSilent(), minute);
+        LampOfTheSilent x = Due.atMinute(new LampOfTheSilent(), minute);
         Due.tell(x, mine).mine();
         String call = mine + " at MINUTE " + minute;
         DUE.is("eager() of " + call, x.eager(), due ? 1 : 0);

@@ -57,19 +57,6 @@ public final class OddsEdgesTest {
         return Due.mineOf(texts);
     }
 
-    /** A talker with so many BRUISES beside a deaf one, in CELL 0, with so many BEAMS in CELL 1. */
-    private static LampOfTheSilent bruised(int bruises, int ahead) {
-        LampOfTheSilent x = mine("pt0d0;");
-        while (x.miner(0, 2) < bruises) {
-            x.stands(0, 0);
-            x.props(1, Math.min(3, bruises - x.miner(0, 2)));
-            x.minutes(1);
-        }
-        x.stands(0, 0);
-        x.props(1, ahead);
-        return x;
-    }
-
     private static void humOfNoMinutes() {
         DUE.by("II", "HUM: for a PAIR with n MINUTES (0 .. 12)");
         DUE.is("hum(0, -1)", mine("pd0d0;a019;").hum(0, -1), -4);
@@ -151,7 +138,7 @@ public final class OddsEdgesTest {
         DUE.is("the last by 1", mine("pt0d0;pd0t0;a101;b012;b023;m01;").first(2), 3);
         DUE.is("the first by 1", mine("pt0d0;pd0t0;a101;b013;b022;m01;").first(2), 0);
         DUE.is("the last of four PAIRS", mine("pd0d0;pd0d0;pd0d0;pd0t0;b011;m01;").first(2), 7);
-        LampOfTheSilent x = Due.tell(bruised(99, 0), "pd0d0;x03;");
+        LampOfTheSilent x = Due.tell(Due.bruised(99, 0), "pd0d0;x03;");
         x.mine();
         DUE.is("99 BRUISES", x.first(2), 3);
     }
@@ -318,7 +305,7 @@ public final class OddsEdgesTest {
 
     /** Two words to say; 4 BEAMS on the way, the first MINER with so many BRUISES. */
     private static LampOfTheSilent twoWords(int bruises) {
-        LampOfTheSilent x = bruised(bruises, 3);
+        LampOfTheSilent x = Due.bruised(bruises, 3);
         x.props(2, 1);
         x.adds(0, 2);
         return x;
@@ -342,7 +329,7 @@ public final class OddsEdgesTest {
         DUE.is("in PAIR 3 the first has 98", last.two(3, 2), 10);
         last.swaps(6, 2);
         DUE.is("in PAIR 1 the first has 98", last.two(1, 2), 10);
-        LampOfTheSilent y = bruised(98, 3);
+        LampOfTheSilent y = Due.bruised(98, 3);
         y.adds(0, 1);
         DUE.is("3 BEAMS: the second has it no worse by speaking", y.two(0, 1), 1);
     }
@@ -452,15 +439,11 @@ public final class OddsEdgesTest {
         mean(mine("pt0d0;pd0d0;pd0d0;pd0d0;b011;m01;"), 1, 8);
         mean(mine("pt0d0;pd0d0;pd0d0;b013;m01;"), 1, 2);
         mean(mine("pt0d0;pt0d0;pt0d0;b013;m01;"), 3, 2);
-        mean(bruised(99, 0), 99, 2);
-        LampOfTheSilent both = bruised(99, 0);
+        mean(Due.bruised(99, 0), 99, 2);
+        LampOfTheSilent both = Due.bruised(99, 0);
         both.swaps(0, 1);
-        while (both.miner(0, 2) < 99) {
-            both.turn(0, 2, 0);
-            both.stands(0, 0);
-            both.props(1, 3);
-            both.minutes(1);
-        }
+        both.turn(0, 2, 0);
+        Due.bruise(both, 99, 0);
         mean(both, 99, 1);
         DUE.is("0 by 1 of odds that never come", mine("pd0d0;").cough(0, 7, 20, 19, 1), 640000000);
         fraction(mine("pt0d0;"), 7, 20, 19, 0, 1);
@@ -688,11 +671,11 @@ public final class OddsEdgesTest {
 
     private static void lotsNear99() {
         DUE.by("II", "all BRUISES more.");
-        LampOfTheSilent x = bruised(98, 3);
+        LampOfTheSilent x = Due.bruised(98, 3);
         x.props(4, 3);
         x.props(5, 3);
         DUE.is("98 have 1 more at most", x.lots(1, 0, 1), 1);
-        LampOfTheSilent y = bruised(99, 3);
+        LampOfTheSilent y = Due.bruised(99, 3);
         y.props(4, 3);
         DUE.is("99 have none more", y.lots(1, 0, 1), 0);
         DUE.is("each shift from now", x.lots(2, 0, 1), 1 + x.lots(1, 1196435762, 1));

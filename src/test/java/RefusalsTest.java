@@ -92,10 +92,7 @@ public final class RefusalsTest {
     private static LampOfTheSilent atMinute(int minute) {
         LampOfTheSilent x = Due.mineOf("pt1d2;");
         x.image();
-        while (x.count(1) < minute) {
-            x.minutes(Math.min(60, minute - x.count(1)));
-        }
-        return x;
+        return Due.atMinute(x, minute);
     }
 
     /** All values of each argument with all of the others': the order is that in which the promise tells its refusals. */

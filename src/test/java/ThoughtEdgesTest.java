@@ -51,19 +51,6 @@ public final class ThoughtEdgesTest {
         return Due.mineOf(texts);
     }
 
-    /** A talker with so many BRUISES beside a deaf one, in CELL 0, with so many BEAMS in CELL 1. */
-    private static LampOfTheSilent bruised(int bruises, int ahead) {
-        LampOfTheSilent x = mine("pt0d0;");
-        while (x.miner(0, 2) < bruises) {
-            x.stands(0, 0);
-            x.props(1, Math.min(3, bruises - x.miner(0, 2)));
-            x.minutes(1);
-        }
-        x.stands(0, 0);
-        x.props(1, ahead);
-        return x;
-    }
-
     private static void passesMinute999() {
         DUE.by("II", "(In thought MINUTE may pass 999.)");
         LampOfTheSilent x = mine(TO_MINUTE_999, "pd0f0;pm0o0;t120;b011;b021;b042;");
@@ -259,11 +246,11 @@ public final class ThoughtEdgesTest {
 
     private static void hurt99() {
         DUE.by("II", "BRUISED v (0 .. 99) or more");
-        DUE.is("99 of 99", bruised(99, 3).hurt(0, 99), 0);
-        DUE.is("99 of 98 and 1", bruised(98, 1).hurt(0, 99), 1);
-        DUE.is("99 of 98 and 3", bruised(98, 3).hurt(0, 99), 1);
-        DUE.is("99 of 98 and 0", bruised(98, 0).hurt(0, 99), -9);
-        DUE.is("98 of 98", bruised(98, 0).hurt(0, 98), 0);
+        DUE.is("99 of 99", Due.bruised(99, 3).hurt(0, 99), 0);
+        DUE.is("99 of 98 and 1", Due.bruised(98, 1).hurt(0, 99), 1);
+        DUE.is("99 of 98 and 3", Due.bruised(98, 3).hurt(0, 99), 1);
+        DUE.is("99 of 98 and 0", Due.bruised(98, 0).hurt(0, 99), -9);
+        DUE.is("98 of 98", Due.bruised(98, 0).hurt(0, 98), 0);
     }
 
     private static void waitAtItsEnds() {
@@ -338,9 +325,9 @@ public final class ThoughtEdgesTest {
 
     private static void clearAt99Bruises() {
         DUE.by("I", "(so many more, 99 at most)");
-        DUE.is("99 are 99 with BEAMS or without", bruised(99, 3).clears(1), -9);
-        DUE.is("98 are 99 with them", bruised(98, 3).clears(1), 1);
-        LampOfTheSilent x = bruised(98, 1);
+        DUE.is("99 are 99 with BEAMS or without", Due.bruised(99, 3).clears(1), -9);
+        DUE.is("98 are 99 with them", Due.bruised(98, 3).clears(1), 1);
+        LampOfTheSilent x = Due.bruised(98, 1);
         x.props(2, 1);
         DUE.is("98 are 99 by those of 2, too", x.clears(2), -9);
     }
@@ -488,7 +475,7 @@ public final class ThoughtEdgesTest {
 
     private static void bestCellAt99Bruises() {
         DUE.by("II", "a PAIR walks into fewest BEAMS");
-        LampOfTheSilent x = bruised(99, 3);
+        LampOfTheSilent x = Due.bruised(99, 3);
         DUE.is("BEAMS count that BRUISE no more", x.bestCell(0, 0), 1);
     }
 

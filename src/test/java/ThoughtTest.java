@@ -200,14 +200,8 @@ public final class ThoughtTest {
     /** The first of pair 0 speaks at beams till he has so many bruises; then four beams and three words are ahead. */
     private static void bruise(LampOfTheSilent x, int bruises) {
         x.turn(0, 2, 0);
-        while (x.miner(0, 2) < bruises) {
-            x.stands(0, 0);
-            x.props(1, Math.min(3, bruises - x.miner(0, 2)));
-            x.minutes(1);
-        }
-        x.stands(0, 0);
+        Due.bruise(x, bruises, 1);
         x.adds(0, 3);
-        x.props(1, 1);
         x.props(2, 1);
         x.props(3, 2);
     }
