@@ -341,6 +341,7 @@ public final class ThoughtEdgesTest {
         DUE.is("four PAIRS: the own two of the last are none",
                 mine("pm0m0;pm0m0;pm0m0;pm0d0;a019;a119;a219;").change(), -9);
         DUE.is("two PAIRS without another KIND", mine("pm0m0;pm0m0;").change(), -9);
+        DUE.is("two PAIRS of talkers: nobody of a third is there", mine("pt0d0;pt0t0;a119;").change(), -9);
     }
 
     private static void changeIsNoRefusal() {
